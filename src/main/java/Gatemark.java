@@ -448,26 +448,22 @@ public final class Gatemark {
 
     public int partOf(int part, char what) throws IndexOutOfBoundsException, IllegalArgumentException {
         Part p = partAt(part);
-        switch (what) {
-            case 'm':
-                return p.shot.machine.number;
-            case 't':
-                return p.shot.tool.number;
-            case 'c':
-                return p.cavity;
-            case 'h':
-                return p.shot.hour;
-            case 'g':
-                return p.grams;
-            case 's':
-                return p.shrinking;
-            case 'w':
-                return p.warp;
-            case 'p':
-                return p.shot.setting.number;
-            default:
-                throw new IllegalArgumentException("no such thing of a part");
+        if (what == 'c') {
+            return p.cavity;
         }
+        if (what == 'g') {
+            return p.grams;
+        }
+        if (what == 's') {
+            return p.shrinking;
+        }
+        if (what == 'w') {
+            return p.warp;
+        }
+        if (what != 'm' && what != 't' && what != 'h' && what != 'p') {
+            throw new IllegalArgumentException("no such thing of a part");
+        }
+        return p.shot.told(what);
     }
 
     public int lotIn(int part, int lot) throws IndexOutOfBoundsException {
@@ -729,18 +725,16 @@ public final class Gatemark {
     }
 
     private static char follower(char act, boolean hasSlides) {
-        switch (act) {
-            case 'o':
-                return 'f';
-            case 'f':
-                return 't';
-            case 't':
-                return 'b';
-            case 'b':
-                return hasSlides ? 'i' : 's';
-            default:
-                return 's';
+        if (act == 'o') {
+            return 'f';
         }
+        if (act == 'f') {
+            return 't';
+        }
+        if (act == 't') {
+            return 'b';
+        }
+        return act == 'b' && hasSlides ? 'i' : 's';
     }
 
     private void addToChart(Part p) {
@@ -1401,20 +1395,19 @@ public final class Gatemark {
         }
 
         private int told(char what) {
-            switch (what) {
-                case 'l':
-                    return length;
-                case 'f':
-                    return filling;
-                case 'w':
-                    return welds;
-                case 't':
-                    return traps;
-                case 'n':
-                    return notFull;
-                default:
-                    return grams;
+            if (what == 'l') {
+                return length;
             }
+            if (what == 'f') {
+                return filling;
+            }
+            if (what == 'w') {
+                return welds;
+            }
+            if (what == 't') {
+                return traps;
+            }
+            return what == 'n' ? notFull : grams;
         }
 
         private int gramsInCavity(int cavity) {
@@ -1491,6 +1484,16 @@ public final class Gatemark {
                 taken[i] = hopper.gramsFrom(i, needed);
                 lots[i].grams -= taken[i];
             }
+        }
+
+        private int told(char what) {
+            if (what == 'm') {
+                return machine.number;
+            }
+            if (what == 't') {
+                return tool.number;
+            }
+            return what == 'h' ? hour : setting.number;
         }
 
         private int gramsOf(Lot lot) {
