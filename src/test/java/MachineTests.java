@@ -142,17 +142,18 @@ public final class MachineTests {
         Gatemark x = Works.twoCavities(true);
         C.is("the same again", x.purge(0, 0, 0), 20);
         C.is("waste of both", x.waste(0), 40);
-        C.is("its hopper is empty then", x.feed(0, 0, 1), 1);
+        x.lot(0, 1, 0);
+        C.is("its hopper is empty then", x.feed(0, 1, 1), 1);
         C.is("darker", x.purge(0, 0, 7), 20);
         C.is("3 steps lighter", x.purge(0, 0, 4), 110);
         x.resin(1, 1, 0, 0, 400, false);
         x.lot(1, 165, 400);
-        C.is("another resin, 2 steps lighter", x.purge(0, 1, 2), 130);
+        C.is("another resin, 2 steps lighter", x.purge(0, 2, 2), 130);
         C.is("waste of the new resin", x.waste(1), 130);
-        C.is("its lot", x.grams(1), 35);
-        C.fails("50 grams are not there", Works.STATE, () -> x.purge(0, 1, 1));
-        C.is("20 are", x.purge(0, 1, 2), 20);
-        C.fails("15 are too few", Works.STATE, () -> x.purge(0, 1, 2));
+        C.is("its lot", x.grams(2), 35);
+        C.fails("50 grams are not there", Works.STATE, () -> x.purge(0, 2, 1));
+        C.is("20 are", x.purge(0, 2, 2), 20);
+        C.fails("15 are too few", Works.STATE, () -> x.purge(0, 2, 2));
         C.is("brought", x.brought(1), 165);
         x.purge(0, 0, 0);
         x.feed(0, 0, 100);
@@ -164,10 +165,10 @@ public final class MachineTests {
         x.act(0, 't');
         C.is("it is out", x.purge(0, 0, 0), 20);
         C.fails("no such machine", Works.INDEX, () -> x.purge(1, 0, 8));
-        C.fails("no such lot", Works.INDEX, () -> x.purge(0, 2, 8));
+        C.fails("no such lot", Works.INDEX, () -> x.purge(0, 3, 8));
         C.fails("lot -1", Works.INDEX, () -> x.purge(0, -1, 0));
         C.fails("colour -1", Works.ARGUMENT, () -> x.purge(0, 0, -1));
-        C.fails("colour 8", Works.ARGUMENT, () -> x.purge(0, 1, 8));
+        C.fails("colour 8, of a lot of too few grams", Works.ARGUMENT, () -> x.purge(0, 2, 8));
         C.is("grams balance", x.isTrue(), true);
     }
 

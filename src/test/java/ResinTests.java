@@ -12,6 +12,7 @@ public final class ResinTests {
         grindTakesBadPartsAndWaste();
         grindRefuses();
         grindGenerations();
+        grindGenerationOfParts();
         C.end();
     }
 
@@ -181,5 +182,28 @@ public final class ResinTests {
         Works.press(x, 0);
         C.is("waste since it was ground last", x.generation(x.grind(0)), 1);
         C.is("grams balance", x.isTrue(), true);
+    }
+
+    private static void grindGenerationOfParts() {
+        Gatemark x = Works.badCavity();
+        Works.press(x, 0);
+        x.grind(0);
+        x.purge(0, 0, 0);
+        x.feed(0, 0, 50);
+        x.feed(0, 1, 50);
+        x.shot(0);
+        C.is("waste of a lot of generation 1", x.generation(x.grind(0)), 2);
+        x.act(0, 'f');
+        x.act(0, 't');
+        x.purge(0, 0, 1);
+        x.purge(0, 0, 0);
+        C.is("waste of new lots, but a bad part of generation 1", x.generation(x.grind(0)), 2);
+        C.is("the part is ground", x.stateOf(3), 'g');
+        x.purge(0, 0, 1);
+        x.purge(0, 0, 0);
+        C.is("waste of new lots", x.generation(x.grind(0)), 1);
+        x.purge(0, 3, 1);
+        x.purge(0, 0, 0);
+        C.is("waste that a purge took of generation 2", x.generation(x.grind(0)), 3);
     }
 }
